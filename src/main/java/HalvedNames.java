@@ -29,8 +29,8 @@ public final class HalvedNames {
     private static final int SEED_MOST = 2000000000;
     private static final int YEARS_MOST = 20;
 
-    private final Tape tape;
     private final Reader reader;
+    private final Tape tape;
     private final Hill hill;
     private final Hill draft;
     private final Course course;
@@ -44,8 +44,8 @@ public final class HalvedNames {
     private final boolean[] kept;
 
     public HalvedNames() {
-        tape = new Tape();
-        reader = new Reader(tape);
+        reader = new Reader();
+        tape = reader.tape;
         hill = new Hill();
         draft = new Hill();
         course = new Course();
@@ -891,7 +891,7 @@ public final class HalvedNames {
         static final int NUMBER = 2;
         static final int SIGN = 3;
         static final int NO_TOKEN = 4;
-        private static final int NUMBER_MOST = 1000000;
+        private static final int NUMBER_ENOUGH = 1000000;
 
         final byte[] bytes = new byte[TAPE_MOST];
         int size;
@@ -937,7 +937,7 @@ public final class HalvedNames {
             } else if (b >= '0' && b <= '9') {
                 kind = NUMBER;
                 stop = runEnd(i, '0', '9');
-                number = numberHere();
+                number = numberUpTo(stop);
             } else {
                 kind = b == ';' ? SIGN : NO_TOKEN;
                 stop = i + 1;
@@ -946,17 +946,17 @@ public final class HalvedNames {
 
         private int runEnd(int from, int low, int high) {
             int i = from;
-            while (i < size && byteAt(i) >= low && byteAt(i) <= high) {
+            while (i >= 0 && i < size && i < bytes.length && bytes[i] >= low && bytes[i] <= high) {
                 i++;
             }
             return i;
         }
 
-        /** The number, cut off far above every bound, so that long digits don't wrap. */
-        private int numberHere() {
+        /** Behind so many digits that it is far above every bound the rest is left, lest it wrap. */
+        private int numberUpTo(int end) {
             int value = 0;
-            for (int i = start; i < stop; i++) {
-                value = Math.min(NUMBER_MOST, value * 10 + byteAt(i) - '0');
+            for (int i = start; i >= 0 && i < end && i < bytes.length && value < NUMBER_ENOUGH; i++) {
+                value = value * 10 + bytes[i] - '0';
             }
             return value;
         }
@@ -980,13 +980,9 @@ public final class HalvedNames {
         private static final int OUT_OF_BOUNDS = 2;
         private static final int TOO_MANY = 3;
 
-        private final Tape tape;
+        final Tape tape = new Tape();
         int fault;
         int place = NONE;
-
-        Reader(Tape tape) {
-            this.tape = tape;
-        }
 
         void read(Hill hill) {
             hill.clear();
@@ -1024,7 +1020,8 @@ public final class HalvedNames {
                 readSays(hill);
             } else if (tape.isWord("foe")) {
                 int foe = expectFolk(hill);
-                int folk = expectOther(hill, foe);
+                int folk = expectFolk(hill);
+                refuseAlike(foe, folk);
                 Rows.put(hill.foes, folk, Rows.at(hill.foes, folk) | 1 << foe);
                 tape.advance();
             } else {
@@ -1048,6 +1045,7 @@ public final class HalvedNames {
         private void readName(Hill hill) {
             if (hill.people >= FOLK_MOST) {
                 fail(TOO_MANY);
+                return;
             }
             int folk = hill.people;
             hill.people++;
@@ -1077,7 +1075,8 @@ public final class HalvedNames {
 
         private void readKnows(Hill hill) {
             int folk = expectFolk(hill);
-            int other = expectOther(hill, folk);
+            int other = expectFolk(hill);
+            refuseAlike(folk, other);
             int i = expectNumber(0, hill.lengthOf(other) - 1);
             int pair = folk * FOLK_MOST + other;
             Rows.put(hill.told, pair, Rows.at(hill.told, pair) | 1 << i);
@@ -1087,6 +1086,7 @@ public final class HalvedNames {
         private void readSays(Hill hill) {
             if (hill.sayings >= SAYINGS_MOST) {
                 fail(TOO_MANY);
+                return;
             }
             int folk = expectFolk(hill);
             int other = expectFolk(hill);
@@ -1098,23 +1098,20 @@ public final class HalvedNames {
         }
 
         private int expectFolk(Hill hill) {
-            return expectNumber(0, hill.people - 1);
-        }
-
-        private int expectOther(Hill hill, int folk) {
-            int other = expectFolk(hill);
-            if (other == folk) {
-                fail(OUT_OF_BOUNDS);
-            }
-            return other;
+            tape.advance();
+            return numberHere(0, hill.people - 1);
         }
 
         private int expectNumber(int low, int high) {
-            if (fault != 0) {
-                return 0;
-            }
             tape.advance();
             return numberHere(low, high);
+        }
+
+        /** Looks at the second of two FOLK still. */
+        private void refuseAlike(int folk, int other) {
+            if (folk == other) {
+                fail(OUT_OF_BOUNDS);
+            }
         }
 
         /** The number that is looked at; 0 behind a FAULT. */
@@ -1128,9 +1125,6 @@ public final class HalvedNames {
         }
 
         private void expectWord(String word) {
-            if (fault != 0) {
-                return;
-            }
             tape.advance();
             if (!tape.isWord(word)) {
                 fail(MISPLACED);
@@ -1144,7 +1138,7 @@ public final class HalvedNames {
             }
         }
 
-        /** The first FAULT stays: TOKENS come by place, and each is asked for the least first. */
+        /** The first FAULT stays, whatever the rest of its LINE asks for. */
         private void fail(int which) {
             if (fault == 0) {
                 fault = which;
@@ -1234,11 +1228,11 @@ public final class HalvedNames {
         }
 
         int lengthOf(int folk) {
-            return Rows.at(lengths, folk);
+            return folk >= 0 && folk < lengths.length ? lengths[folk] : 0;
         }
 
         int syllableOf(int folk, int i) {
-            return hasSyllable(folk, i) ? Rows.at(names, folk * NAME_MOST + i) : NONE;
+            return i >= 0 && i < lengthOf(folk) ? Rows.at(names, folk * NAME_MOST + i) : NONE;
         }
 
         /** All syllables of a name, as bits. */
