@@ -41,7 +41,8 @@ public final class HalvedNames {
     private final Listening listening;
     private final Naming naming;
     private final Hill[] images;
-    private final boolean[] kept;
+    /** Which images keep something, as bits. */
+    private int kept;
 
     public HalvedNames() {
         reader = new Reader();
@@ -56,7 +57,6 @@ public final class HalvedNames {
         listening = new Listening();
         naming = new Naming();
         images = new Hill[IMAGES];
-        kept = new boolean[IMAGES];
         for (int k = 0; k < images.length; k++) {
             images[k] = new Hill();
         }
@@ -748,7 +748,7 @@ public final class HalvedNames {
             return NO_SUCH;
         }
         image.copyFrom(hill);
-        kept[k] = true;
+        kept |= 1 << k;
         return 0;
     }
 
@@ -757,7 +757,7 @@ public final class HalvedNames {
         if (image == null) {
             return NO_SUCH;
         }
-        if (!kept[k]) {
+        if ((kept >> k & 1) == 0) {
             return HAS_NOTHING;
         }
         hill.copyFrom(image);
@@ -766,7 +766,7 @@ public final class HalvedNames {
     }
 
     private Hill imageAt(int k) {
-        return k >= 0 && k < images.length && k < kept.length ? images[k] : null;
+        return k >= 0 && k < images.length ? images[k] : null;
     }
 
     // ---- rows

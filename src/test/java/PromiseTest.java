@@ -227,6 +227,8 @@ public final class PromiseTest {
         due("rings()", x.rings(), -2);
         due("six of six", Feeder.hill(x, "hill syllables 2 places 1 hours 1;name 0 1 0 1 0 1;"
             + "name 1;name 1;name 1;name 1;name 1;"), 7);
+        due("no blanks", Feeder.hill(x, "hill syllables2places1hours1;name0 1;foe;"), -4);
+        due("no blanks", x.fault(1), 40);
         due("a long number", Feeder.hill(x, "hill syllables 0000000000000000000002 places 1 hours 1;"), 1);
     }
 
@@ -277,6 +279,10 @@ public final class PromiseTest {
         faulty(FIRST + "knows 0 1 0 0;", 1, n + 12);
         faulty(FIRST + "deaf 0 1 ?", 1, n + 9);
         faulty(FIRST + "name 0,", 1, n + 6);
+        faulty(FIRST + "\0", 1, n);
+        faulty(FIRST + "\r", 1, n);
+        faulty(FIRST + "name 0\u00ff", 1, n + 6);
+        faulty(FIRST + "namez 0", 1, n);
     }
 
     private static void faultsOfBounds() {
@@ -1072,6 +1078,11 @@ public final class PromiseTest {
         HalvedNames w = made("hill syllables 2 places 1 hours 1;name 0;name 1;");
         due("child(-1) of none", w.child(-1), -1);
         due("child(0) of none", w.child(0), -1);
+        HalvedNames six = made("hill syllables 2 places 1 hours 1;name 0;name 1 0;name 1 1 0;name 1 1 1 0;"
+            + "name 1 1 1 1 0;name 1 1 1 1 1 0;");
+        due("child(-1) of six", six.child(-1), 6);
+        due("child(5)", six.child(5), 1);
+        due("child(6)", six.child(6), -1);
         HalvedNames v = made("hill syllables 2 places 1 hours 1;");
         due("child(-1) without folk", v.child(-1), 1);
         due("child(0) without folk", v.child(0), 0);
