@@ -369,6 +369,7 @@ public final class EdgeTest {
         s.says("NONE: never;");
         s.due("danger(2): its foe never does", y.danger(2), -1);
         s.due("danger(3): no foe", y.danger(3), -1);
+        s.due("danger(4): no foe of six", made(LONGEST.replace("foe 5 4;", "knows 5 4 0;")).danger(4), -1);
         s.due("danger(1): who does is no foe", x.danger(1), -1);
         s.due("danger(0): whose foe it is does", made(TWO + "foe 0 1;says 0 0 0 at 0;says 0 0 1 at 0;").danger(0), -1);
         s.says("-3: ahead of all;");

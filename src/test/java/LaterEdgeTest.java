@@ -696,6 +696,8 @@ public final class LaterEdgeTest {
             + "above (what 0), below (1).");
         odds("told once", made(ILL + "deaf 1 50;says 0 0 0 at 0;"), 1, 0, 1, 2);
         odds("told twice", made(ILL + "deaf 1 50;says 0 0 0 at 0;says 0 0 0 at 3;"), 1, 0, 3, 4);
+        odds("told twice, others between", made(ILL + "deaf 1 50;says 0 0 0 at 0;says 0 2 0 at 0;says 1 1 0 at 0;"
+            + "says 0 0 0 at 0;"), 1, 0, 3, 4);
         odds("two syllables", made(ILL + "deaf 0 30;says 1 1 0 at 0;says 1 1 1 at 0;"), 0, 1, 49, 100);
         odds("never told", made(ILL + "deaf 1 50;"), 1, 0, 0, 1);
         odds("deaf 100", made(ILL + "deaf 1 100;says 0 0 0 at 0;"), 1, 0, 0, 1);
