@@ -40,6 +40,7 @@ public final class LanguageTest {
         callsInCalls(code);
         Set<String> face = faceOfDocument();
         check(face.equals(faceOfClass()), "the face is not the document's: " + faceOfClass());
+        check(HalvedNames.NONE == -1, "NONE is " + HalvedNames.NONE);
         Set<String> names = new TreeSet<>();
         for (Method m : HalvedNames.class.getDeclaredMethods()) {
             if (Modifier.isPublic(m.getModifiers())) {
@@ -89,7 +90,10 @@ public final class LanguageTest {
         check(!Pattern.compile("\\bwhile \\((true|1)").matcher(code).find(), "a loop has no end");
     }
 
-    /** By names alone, so two methods of one name count as one: none calls itself, and they go eight deep at most. */
+    /**
+     * By names alone, so two methods of one name count as one: none calls itself, they go eight deep at most, and
+     * none makes an object, so that all calls of a run have room.
+     */
     private static void callsInCalls(String code) {
         String bare = code.replaceAll("\"[^\"\n]*\"|'.'", "0").replaceAll("\\bword\\.\\w+\\(", "(");
         Map<String, StringBuilder> bodies = new TreeMap<>();
@@ -104,6 +108,7 @@ public final class LanguageTest {
         }
         check(bodies.size() > 66, "there are " + bodies.size() + " methods");
         for (String name : bodies.keySet()) {
+            check(!Pattern.compile("\\bnew\\b").matcher(bodies.get(name)).find(), name + " makes an object");
             int deep = depth(name, bodies, new ArrayList<>());
             check(deep <= 8, name + " goes " + deep + " deep");
         }
