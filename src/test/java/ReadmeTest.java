@@ -5,7 +5,6 @@ import java.nio.file.Files;
 import java.nio.file.Path;
 import java.util.regex.Matcher;
 import java.util.regex.Pattern;
-import javax.tools.ToolProvider;
 
 /** Compiles and runs the example of README.md: each call with a number behind it must answer that number. */
 public final class ReadmeTest {
@@ -56,8 +55,8 @@ public final class ReadmeTest {
     private static void compileAndRun(Path folder, String code) throws Exception {
         Path source = folder.resolve("Example.java");
         Files.writeString(source, code);
-        int failed = ToolProvider.getSystemJavaCompiler().run(null, null, null,
-            "-cp", System.getProperty("java.class.path"), "-d", folder.toString(), source.toString());
+        int failed = new ProcessBuilder("javac", "-encoding", "UTF-8", "-cp", System.getProperty("java.class.path"),
+            "-d", folder.toString(), source.toString()).inheritIO().start().waitFor();
         if (failed != 0) {
             wrong++;
             return;
